@@ -11,7 +11,7 @@ import java.util.TreeSet;
 public final class ModelTests {
     private static final int RUNS = 3000;
     // A text and the call that takes it may still follow, and stay within 512.
-    private static final int CALLS = 460;
+    private static final int CALLS = 440;
     private static int wrong = 0;
 
     public static void main(String[] args) {
@@ -110,12 +110,18 @@ public final class ModelTests {
         }
 
         int textCall() {
+            int between = 0;
             int length = any(15) == 0 ? any(45) : (big ? 2 + any(4) : any(14) == 0 ? 0 : 1 + any(3));
             for (int i = 0; i < length; i++) {
                 int c = anySign();
                 x.sign(c);
                 model.sign(c);
                 told.append(" sign(").append(c).append(")");
+                // Calls that want no text leave what is collected.
+                if (any(20) == 0) {
+                    plainCall();
+                    between++;
+                }
             }
             int what = any(10);
             if (what < 6) {
@@ -131,7 +137,7 @@ public final class ModelTests {
                 long day = anyDay();
                 due("split(" + h + ", " + day + ")", x.split(h, day), model.split(h, day));
             }
-            return length + 1;
+            return length + between + 1;
         }
 
         void plainCall() {

@@ -6,15 +6,7 @@ import java.util.Set;
 import java.util.TreeSet;
 
 /** For each promise of the document: ordinary inputs, the edges that it names, and wrong inputs. */
-public final class PromiseTests {
-    private static final int[] WRONG_HEADINGS = {0, -1, 61, 64, 65, Integer.MIN_VALUE, Integer.MAX_VALUE};
-    private static final int SEE = 0;
-    private static final int ALSO = 1;
-    private static final int BROADER = 2;
-    private static final int LATER = 3;
-
-    private static int wrong = 0;
-
+public final class PromiseTests extends Checks {
     public static void main(String[] args) {
         face();
         promise1NewObject();
@@ -41,66 +33,7 @@ public final class PromiseTests {
         promise15RingStays();
         promise15RingLong();
         promise16Letter();
-        System.out.println(wrong == 0 ? "all promises are kept" : wrong + " answers are not as due");
-        if (wrong != 0) {
-            System.exit(1);
-        }
-    }
-
-    private static void due(String call, long got, long want) {
-        if (got != want) {
-            wrong++;
-            System.out.println(call + " answered " + got + ", due is " + want);
-        }
-    }
-
-    private static AuthorityRows collect(AuthorityRows x, String text) {
-        for (int i = 0; i < text.length(); i++) {
-            x.sign(text.charAt(i));
-        }
-        return x;
-    }
-
-    private static int heading(AuthorityRows x, String text, int kind) {
-        return collect(x, text).heading(kind);
-    }
-
-    private static AuthorityRows withHeadings(int n) {
-        AuthorityRows x = new AuthorityRows();
-        for (int h = 1; h <= n; h++) {
-            due("heading " + h, heading(x, "h" + h, 0), h);
-        }
-        return x;
-    }
-
-    private static String textOf(AuthorityRows x, int heading) {
-        StringBuilder text = new StringBuilder();
-        for (int i = 0; i < 40 && x.letter(heading, i) != AuthorityRows.NONE; i++) {
-            text.append((char) x.letter(heading, i));
-        }
-        return text.toString();
-    }
-
-    private static void dueText(String what, AuthorityRows x, int heading, String want) {
-        String got = textOf(x, heading);
-        if (!got.equals(want)) {
-            wrong++;
-            System.out.println(what + ": the text is '" + got + "', due is '" + want + "'");
-        }
-    }
-
-    private static void dueRing(String what, AuthorityRows x, int... want) {
-        for (int i = 0; i < want.length; i++) {
-            due(what + ", ring(" + i + ")", x.ring(i), want[i]);
-        }
-        due(what + ", ring past its end", x.ring(want.length), 0);
-    }
-
-    private static void dueBroader(String what, AuthorityRows x, int heading, int... want) {
-        for (int i = 0; i < want.length; i++) {
-            due(what + ", broader(" + heading + ", " + i + ")", x.broader(heading, i), want[i]);
-        }
-        due(what + ", broader past its end", x.broader(heading, want.length), 0);
+        finish();
     }
 
     private static void face() {
@@ -123,8 +56,7 @@ public final class PromiseTests {
         want.addAll(Set.of("int split 2", "int shown 2", "int record 2", "int linked 1", "int form 2",
                 "int ring 1", "int letter 2"));
         if (!members.equals(want)) {
-            wrong++;
-            System.out.println("the face is " + members + ", due is " + want);
+            fail("the face is " + members + ", due is " + want);
         }
         due("NONE", AuthorityRows.NONE, -1);
     }
@@ -212,7 +144,7 @@ public final class PromiseTests {
             due("4: there already, sort " + sort, x.link(sort, 1, 2, 7), 0);
             due("4: there already with another day, sort " + sort, x.link(sort, 1, 2, 8), 0);
             due("4: the same, sort " + sort, x.link(sort, 3, 3, 7), 0);
-            for (int h : WRONG_HEADINGS) {
+            for (int h : WRONG_NUMBERS) {
                 due("4: from " + h, x.link(sort, h, 1, 7), 0);
                 due("4: to " + h, x.link(sort, 3, h, 7), 0);
             }
@@ -289,7 +221,7 @@ public final class PromiseTests {
         due("5: a deleted one's text", collect(x, "h3").rename(1), 2);
         due("5: deleted", collect(x, "new").rename(3), -100);
         dueText("5: deleted keeps its text", x, 3, "h3");
-        for (int h : WRONG_HEADINGS) {
+        for (int h : WRONG_NUMBERS) {
             due("5: rename(" + h + ")", collect(x, "new").rename(h), -100);
             due("5: a bad text first", collect(x, "n w").rename(h), -99);
         }
@@ -330,7 +262,7 @@ public final class PromiseTests {
         due("7: max", x.see(2, Integer.MAX_VALUE), 0);
         due("7: min", x.see(2, Integer.MIN_VALUE), 0);
         due("7: not the other way", x.see(1, 0), 0);
-        for (int h : WRONG_HEADINGS) {
+        for (int h : WRONG_NUMBERS) {
             due("7: see(" + h + ", 0)", x.see(h, 0), 0);
         }
         x.delete(4);
@@ -356,7 +288,7 @@ public final class PromiseTests {
         due("8: -1", x.broader(8, -1), 0);
         due("8: min", x.broader(8, Integer.MIN_VALUE), 0);
         due("8: max", x.broader(8, Integer.MAX_VALUE), 0);
-        for (int h : WRONG_HEADINGS) {
+        for (int h : WRONG_NUMBERS) {
             due("8: broader(" + h + ", 0)", x.broader(h, 0), 0);
         }
         x.delete(5);
@@ -378,7 +310,7 @@ public final class PromiseTests {
         AuthorityRows x = withHeadings(3);
         due("9: a live one", x.delete(2), 1);
         due("9: again", x.delete(2), 0);
-        for (int h : WRONG_HEADINGS) {
+        for (int h : WRONG_NUMBERS) {
             due("9: delete(" + h + ")", x.delete(h), 0);
         }
         due("9: 4", x.delete(4), 0);
@@ -452,7 +384,7 @@ public final class PromiseTests {
         x.delete(3);
         due("10: deleted", collect(x, "new").split(3, 0), 0);
         due("10: the text is gone", x.find(), -99);
-        for (int h : WRONG_HEADINGS) {
+        for (int h : WRONG_NUMBERS) {
             due("10: split(" + h + ")", collect(x, "new").split(h, 0), 0);
             due("10: a bad text first", collect(x, "!").split(h, 0), -99);
         }
@@ -474,7 +406,7 @@ public final class PromiseTests {
         due("11: one that SEEs", x.shown(3, 10), 5);
         x.delete(5);
         due("11: deleted", x.shown(5, 10), 0);
-        for (int h : WRONG_HEADINGS) {
+        for (int h : WRONG_NUMBERS) {
             due("11: shown(" + h + ")", x.shown(h, 10), 0);
         }
     }
@@ -487,7 +419,7 @@ public final class PromiseTests {
         due("12: to the used form, not the later one", x.linked(1), 2);
         due("12: second", x.record(3, 100), 2);
         due("12: 4", x.record(4, 0), 0);
-        for (int h : WRONG_HEADINGS) {
+        for (int h : WRONG_NUMBERS) {
             due("12: record(" + h + ")", x.record(h, 0), 0);
         }
         x.delete(1);
@@ -508,7 +440,7 @@ public final class PromiseTests {
         due("13: 1", x.linked(1), 3);
         due("13: 2", x.linked(2), 1);
         due("13: 3", x.linked(3), 0);
-        for (int r : WRONG_HEADINGS) {
+        for (int r : WRONG_NUMBERS) {
             due("13: linked(" + r + ")", x.linked(r), 0);
         }
         x.link(SEE, 1, 2, 0);
@@ -542,7 +474,7 @@ public final class PromiseTests {
         due("14: not a day before", x.form(3, Long.MAX_VALUE - 1), 3);
         x.delete(7);
         due("14: deleted", x.form(7, 0), 0);
-        for (int h : WRONG_HEADINGS) {
+        for (int h : WRONG_NUMBERS) {
             due("14: form(" + h + ")", x.form(h, 0), 0);
         }
     }
@@ -609,7 +541,7 @@ public final class PromiseTests {
         due("16: min", x.letter(2, Integer.MIN_VALUE), -1);
         due("16: max", x.letter(2, Integer.MAX_VALUE), -1);
         due("16: 3", x.letter(3, 0), -1);
-        for (int h : WRONG_HEADINGS) {
+        for (int h : WRONG_NUMBERS) {
             due("16: letter(" + h + ", 0)", x.letter(h, 0), -1);
         }
         x.delete(2);

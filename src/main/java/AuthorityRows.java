@@ -398,7 +398,7 @@ public final class AuthorityRows {
         }
 
         long targetsOf(int sort, int heading) {
-            return targets[sort * HEADING_PLACES + heading];
+            return isPlace(sort, heading) ? targets[sort * HEADING_PLACES + heading] : 0;
         }
 
         long targetsOfAll(int sort, long set) {
@@ -422,7 +422,7 @@ public final class AuthorityRows {
         }
 
         void add(int sort, int from, int to, long day) {
-            if (isFull()) {
+            if (isFull() || !isPlace(sort, from) || !isPlace(sort, to)) {
                 return;
             }
             targets[sort * HEADING_PLACES + from] |= setOf(to);
@@ -433,7 +433,7 @@ public final class AuthorityRows {
         }
 
         void removeAllOf(int heading) {
-            for (int sort = 0; sort < SORTS; sort++) {
+            for (int sort = 0; sort < SORTS && isPlace(sort, heading); sort++) {
                 targets[sort * HEADING_PLACES + heading] = 0;
                 for (int h = 1; h <= MAX_HEADINGS; h++) {
                     targets[sort * HEADING_PLACES + h] &= ~setOf(heading);
@@ -453,6 +453,11 @@ public final class AuthorityRows {
                 }
             }
             return best == NONE ? 0 : laterTo[best];
+        }
+
+        // The face looks at numbers first; this keeps the rows safe whoever asks.
+        private static boolean isPlace(int sort, int heading) {
+            return sort >= 0 && sort < SORTS && heading >= 1 && heading <= MAX_HEADINGS;
         }
 
         private void removeLaterOf(int heading) {

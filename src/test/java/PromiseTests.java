@@ -1,14 +1,6 @@
-import java.lang.reflect.Constructor;
-import java.lang.reflect.Field;
-import java.lang.reflect.Method;
-import java.lang.reflect.Modifier;
-import java.util.Set;
-import java.util.TreeSet;
-
 /** For each promise of the document: ordinary inputs, the edges that it names, and wrong inputs. */
 public final class PromiseTests extends Checks {
     public static void main(String[] args) {
-        face();
         promise1NewObject();
         promise2Sign();
         promise3Heading();
@@ -34,31 +26,6 @@ public final class PromiseTests extends Checks {
         promise15RingLong();
         promise16Letter();
         finish();
-    }
-
-    private static void face() {
-        Set<String> members = new TreeSet<>();
-        for (Method m : AuthorityRows.class.getDeclaredMethods()) {
-            if (!Modifier.isPrivate(m.getModifiers())) {
-                members.add(m.getReturnType() + " " + m.getName() + " " + m.getParameterCount());
-            }
-        }
-        for (Constructor<?> c : AuthorityRows.class.getDeclaredConstructors()) {
-            members.add("new " + c.getParameterCount());
-        }
-        for (Field f : AuthorityRows.class.getDeclaredFields()) {
-            if (!Modifier.isPrivate(f.getModifiers())) {
-                members.add("field " + f.getName());
-            }
-        }
-        Set<String> want = new TreeSet<>(Set.of("new 0", "field NONE", "void sign 1", "int heading 1",
-                "int link 4", "int rename 1", "int find 0", "int see 2", "int broader 2", "int delete 1"));
-        want.addAll(Set.of("int split 2", "int shown 2", "int record 2", "int linked 1", "int form 2",
-                "int ring 1", "int letter 2"));
-        if (!members.equals(want)) {
-            fail("the face is " + members + ", due is " + want);
-        }
-        due("NONE", AuthorityRows.NONE, -1);
     }
 
     private static void promise1NewObject() {
